@@ -11,6 +11,7 @@ public final class AnswersTest {
         answerSeesNothingElse();
         answerAccepts();
         answerAcceptsHashed();
+        answerAcceptsHashedWithTheLeastSum();
         answerAcceptsWhatThereIsRoomFor();
         answerAsks();
         answerRefusesFirstSights();
@@ -20,6 +21,7 @@ public final class AnswersTest {
         confirmRefuses();
         turn();
         turnSeveralLines();
+        turnLinesWithAllPatterns();
         turnKeepsEarlierEnds();
         turnAsFarAsThereIsRoom();
         turnRefuses();
@@ -152,6 +154,14 @@ public final class AnswersTest {
         CHECKS.yes("it is like it", x.matches(1, 9999, 3));
     }
 
+    private static void answerAcceptsHashedWithTheLeastSum() {
+        HostKeyring x = new HostKeyring();
+        x.setFirstSight(HostKeyring.ACCEPT, true);
+        CHECKS.same("new", x.answer(0, 0, 199, NONE), HostKeyring.NEW);
+        CHECKS.yes("the name", x.matches(0, 0, 0));
+        CHECKS.yes("a name of the same hash", x.matches(0, 499, 0));
+    }
+
     private static void answerAcceptsWhatThereIsRoomFor() {
         HostKeyring x = new HostKeyring();
         x.setFirstSight(HostKeyring.ACCEPT, false);
@@ -162,6 +172,10 @@ public final class AnswersTest {
         CHECKS.same("no line is added", x.lines(), 40);
         CHECKS.same("it does not wait", x.waiting(), NONE);
         CHECKS.same("it is still new", x.judge(40, 0, 40, NONE), HostKeyring.NEW);
+        x.pass(1);
+        CHECKS.same("trusted in a full book", x.answer(39, 0, 39, NONE), HostKeyring.TRUSTED);
+        CHECKS.same("its last line is seen", x.seen(39), 1);
+        CHECKS.same("the others are not", x.clean(1), 39);
     }
 
     private static void answerAsks() {
@@ -319,6 +333,19 @@ public final class AnswersTest {
         for (int i = 0; i < ends.length; i++) {
             CHECKS.same("end of line " + i, x.end(i), ends[i]);
         }
+    }
+
+    private static void turnLinesWithAllPatterns() {
+        HostKeyring x = new HostKeyring();
+        x.addLine(HostKeyring.PLAIN, 6);
+        for (int port = 0; port <= 3; port++) {
+            x.addPattern(0, 1111 * port, 15, port, false);
+        }
+        CHECKS.same("turn", x.turn(1111, 1, 6, 7, 1), 1);
+        for (int port = 0; port <= 3; port++) {
+            CHECKS.yes("pattern " + port, x.matches(1, 1111 * port, port));
+        }
+        CHECKS.notNow("it has four", () -> x.addPattern(1, 0, 0, 0, false));
     }
 
     private static void turnKeepsEarlierEnds() {

@@ -114,6 +114,9 @@ public final class CertificatesTest {
         }
         CHECKS.notNow("a span more", () -> x.revokeSpan(7, 19, 19));
         CHECKS.outOfRange("a span more, to ahead of from", () -> x.revokeSpan(7, 19, 18));
+        x.addHashed(HostKeyring.AUTHORITY, 7, 1, 1, 1);
+        CHECKS.same("a certificate in none of twenty", x.judge(1, 1, 0, 19), HostKeyring.CERTIFIED);
+        CHECKS.same("a certificate in one of twenty", x.judge(1, 1, 0, 18), HostKeyring.NEW);
     }
 
     private static void goodForNamesOnly() {
@@ -172,5 +175,11 @@ public final class CertificatesTest {
         CHECKS.same("a plain line is no authority", x.judge(2111, 1, 30, 0), HostKeyring.CHANGED);
         x.addHashed(HostKeyring.AUTHORITY, 9, 2111, 1, 0);
         CHECKS.same("a hashed authority", x.judge(2111, 1, 30, 0), HostKeyring.CERTIFIED);
+        x.remove(3);
+        CHECKS.same("an authority that was taken out", x.judge(2111, 1, 30, 0), HostKeyring.CHANGED);
+        for (int i = 3; i < 40; i++) {
+            x.addLine(HostKeyring.PLAIN, 1);
+        }
+        CHECKS.same("no authority in a full book", x.judge(2111, 1, 30, 0), HostKeyring.CHANGED);
     }
 }

@@ -154,6 +154,9 @@ public final class LinesTest {
         CHECKS.no("the name after it", x.matches(0, 101, 3));
         CHECKS.yes("499 names further the hash is the same", x.matches(0, 599, 3));
         CHECKS.yes("the last name", x.matches(1, 9999, 0));
+        x.addHashed(HostKeyring.PLAIN, 0, 0, 1, 0);
+        CHECKS.yes("the first name with the first salt", x.matches(2, 499, 1));
+        CHECKS.no("and none of another hash", x.matches(2, 498, 1));
         for (int name = 0; name <= 9999; name++) {
             if (x.matches(0, name, 3) != (name % 499 == 100)) {
                 CHECKS.no("hash of " + name, true);
@@ -232,6 +235,8 @@ public final class LinesTest {
         CHECKS.outOfRange("a hashed line more with a wrong salt", () -> x.addHashed(0, 0, 0, 0, 100));
         CHECKS.same("lines", x.lines(), 40);
         CHECKS.same("the last of forty", x.linesOf(39), 1L << 39);
+        CHECKS.same("none of forty is found", x.find(1, 3), HostKeyring.NONE);
+        CHECKS.same("none of forty tells", x.judge(0, 3, 0, HostKeyring.NONE), HostKeyring.NEW);
         CHECKS.same("take one out", x.remove(20), 20);
         CHECKS.same("the last moves up", x.linesOf(39), 1L << 38);
         CHECKS.same("there is room for one", x.addLine(0, 77), 39);
@@ -317,6 +322,8 @@ public final class LinesTest {
         CHECKS.same("a hashed authority is found", x.find(7000, 1), 2);
         CHECKS.same("the last line is found", x.find(9999, 1), 3);
         CHECKS.same("none is found", x.find(5555, 2), HostKeyring.NONE);
+        x.addPattern(0, 5555, 15, 3, false);
+        CHECKS.same("the first line is found", x.find(5555, 3), 0);
         x.turn(9999, 1, 4, 5, 0);
         CHECKS.same("a line that has ended is found", x.find(9999, 1), 3);
         CHECKS.outOfRange("name 10000", () -> x.find(10000, 0));
