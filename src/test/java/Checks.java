@@ -39,6 +39,22 @@ final class Checks {
         throwing(what, IllegalStateException.class, call);
     }
 
+    /** What a call answers, or the name of what it throws. */
+    static String outcome(Call call) {
+        try {
+            return Long.toString(call.run());
+        } catch (RuntimeException thrown) {
+            return thrown.getClass().getSimpleName();
+        }
+    }
+
+    void same(String what, String got, String due) {
+        made++;
+        if (!got.equals(due)) {
+            report(what + " answered " + got + ", due is " + due);
+        }
+    }
+
     /** The class itself, not one below it: what the machine throws is often below what the document names. */
     private void throwing(String what, Class<? extends RuntimeException> due, Call call) {
         made++;

@@ -12,6 +12,7 @@ public final class LinesTest {
         deniedPatterns();
         addPatternRefuses();
         addHashed();
+        hashesOfAllNames();
         addHashedRefuses();
         remove();
         removedLinesLeaveNothingBehind();
@@ -157,9 +158,15 @@ public final class LinesTest {
         x.addHashed(HostKeyring.PLAIN, 0, 0, 1, 0);
         CHECKS.yes("the first name with the first salt", x.matches(2, 499, 1));
         CHECKS.no("and none of another hash", x.matches(2, 498, 1));
-        for (int name = 0; name <= 9999; name++) {
-            if (x.matches(0, name, 3) != (name % 499 == 100)) {
-                CHECKS.no("hash of " + name, true);
+    }
+
+    /** A book for each 500 names, as more than 512 calls are promised for none. */
+    private static void hashesOfAllNames() {
+        for (int first = 0; first <= 9999; first += 500) {
+            HostKeyring x = new HostKeyring();
+            x.addHashed(HostKeyring.PLAIN, 0, 100, 3, 99);
+            for (int name = first; name < first + 500; name++) {
+                CHECKS.same("hash of " + name, x.matches(0, name, 3) ? 1 : 0, name % 499 == 100 ? 1 : 0);
             }
         }
     }

@@ -1,19 +1,17 @@
 import java.util.Random;
 
-/** Runs of mixed calls, right and wrong, each answer and the state then compared with the model's. */
+/** Runs of mixed calls, right and wrong, each answer and the state at the end compared with the model's. */
 public final class ModelTest {
-    private static final int RUNS = 2000;
-    private static final int CALLS = 512;
+    private static final int RUNS = 8000;
+    private static final int LEAST_STEPS = 40;
+    /** The 512 calls that are promised for one object, less those that the state at the end takes. */
+    private static final int MOST_STEPS = 512 - (3 + 4 * 40);
     private static final int[] WRONG = {-1, -2, Integer.MIN_VALUE, Integer.MAX_VALUE};
     private static final int[] NAMES = {0, 7, 499, 500, 999, 1000, 1234, 1235, 1334, 2234, 1733, 5000, 9500, 9999};
     private static final String[] CALL_NAMES = {
         "addLine", "addPattern", "addHashed", "remove", "certify", "revokeSpan", "setFirstSight", "answer",
         "confirm", "turn", "pass", "clean", "judge", "judgeByReading", "keyOf", "seen", "end", "matches",
         "find", "linesOf", "day", "lines", "waiting"};
-
-    private interface Call {
-        long run();
-    }
 
     private final Random random;
     private final HostKeyring real = new HostKeyring();
@@ -34,10 +32,7 @@ public final class ModelTest {
         int[] answered = new int[CALL_NAMES.length];
         int[] threw = new int[CALL_NAMES.length];
         for (int seed = 0; seed < RUNS; seed++) {
-            ModelTest run = new ModelTest(seed);
-            for (int i = 0; i < CALLS; i++) {
-                run.step(answered, threw);
-            }
+            new ModelTest(seed).play(answered, threw);
         }
         for (int i = 0; i < CALL_NAMES.length; i++) {
             boolean mayThrow = i < 20;
@@ -46,15 +41,15 @@ public final class ModelTest {
                 System.exit(1);
             }
         }
-        System.out.println("ModelTest: " + RUNS + " runs of " + CALLS + " calls are as the model's");
+        System.out.println("ModelTest: " + RUNS + " runs are as the model's");
     }
 
-    private static String outcome(Call call) {
-        try {
-            return Long.toString(call.run());
-        } catch (RuntimeException thrown) {
-            return thrown.getClass().getSimpleName();
+    private void play(int[] answered, int[] threw) {
+        int steps = LEAST_STEPS + random.nextInt(MOST_STEPS - LEAST_STEPS + 1);
+        for (int i = 0; i < steps; i++) {
+            step(answered, threw);
         }
+        compareState();
     }
 
     private void step(int[] answered, int[] threw) {
@@ -67,7 +62,6 @@ public final class ModelTest {
             answered[which]++;
         }
         told.append(" -> ").append(got).append('\n');
-        compareState();
     }
 
     /** Some runs rarely take lines out, so that the book gets full. */
@@ -77,9 +71,9 @@ public final class ModelTest {
         return isFilling && isTakingOut && random.nextInt(10) != 0 ? random.nextInt(3) : which;
     }
 
-    private String same(Call realCall, Call modelCall) {
-        String got = outcome(realCall);
-        String due = outcome(modelCall);
+    private String same(Checks.Call realCall, Checks.Call modelCall) {
+        String got = Checks.outcome(realCall);
+        String due = Checks.outcome(modelCall);
         if (!got.equals(due)) {
             System.out.println(told + "\nanswered " + got + ", due is " + due);
             System.exit(1);
