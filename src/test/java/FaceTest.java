@@ -1,10 +1,7 @@
-import java.io.IOException;
 import java.lang.reflect.Constructor;
 import java.lang.reflect.Field;
 import java.lang.reflect.Method;
 import java.lang.reflect.Modifier;
-import java.nio.file.Files;
-import java.nio.file.Path;
 import java.util.ArrayList;
 import java.util.Arrays;
 import java.util.HashSet;
@@ -12,7 +9,7 @@ import java.util.List;
 import java.util.Set;
 import java.util.TreeSet;
 
-/** The face of the document, and what of LANGUAGE.md reflection or a glance at the text can tell. */
+/** The face of the document, and what of LANGUAGE.md reflection can tell. */
 public final class FaceTest {
     private static final Checks CHECKS = new Checks("FaceTest");
     private static final String INDEX = "IndexOutOfBoundsException";
@@ -46,11 +43,10 @@ public final class FaceTest {
         "NONE=-1", "PLAIN=0", "REVOKED_MARK=1", "AUTHORITY=2", "REVOKED=0", "CERTIFIED=1", "TRUSTED=2",
         "CHANGED=3", "OTHER=4", "NEW=5", "ACCEPT=0", "ASK=1", "REFUSE=2"};
 
-    public static void main(String[] args) throws IOException, IllegalAccessException {
+    public static void main(String[] args) throws IllegalAccessException {
         methods();
         constants();
         members();
-        text();
         CHECKS.finish();
     }
 
@@ -134,21 +130,5 @@ public final class FaceTest {
             }
             CHECKS.yes(each + " has at most twenty fields", held <= 20);
         }
-    }
-
-    private static void text() throws IOException {
-        String text = Files.readString(program());
-        for (String ruledOut : new String[] {
-            "import ", "package ", "->", "::", "finally", "synchronized", "assert", "Exact", "random",
-            "currentTime", "nanoTime", "equals(", "hashCode(", "toString("}) {
-            CHECKS.no("the text has " + ruledOut, text.contains(ruledOut));
-        }
-        CHECKS.yes("the text is plain ASCII", text.chars().allMatch(sign -> sign < 128));
-    }
-
-    /** Beside the tests, wherever the tests are run from. */
-    private static Path program() {
-        String root = System.getProperty("project.root", ".");
-        return Path.of(root, "src", "main", "java", "HostKeyring.java");
     }
 }

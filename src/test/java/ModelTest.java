@@ -219,8 +219,12 @@ public final class ModelTest {
                 return same(() -> real.find(name, port), () -> model.find(name, port));
             case 19:
                 return same(() -> real.linesOf(key), () -> model.linesOf(key));
-            default:
+            case 20:
                 return same(real::day, model::day);
+            case 21:
+                return same(real::lines, model::lines);
+            default:
+                return same(real::waiting, model::waiting);
         }
     }
 
